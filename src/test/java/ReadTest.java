@@ -1,0 +1,320 @@
+/** Promises 4 (read) and 5 (fault): lexemes, grammar, limits and every fault with its place. */
+final class ReadTest {
+    public static void main(String[] args) {
+        readsStatements();
+        readsLexemes();
+        whatWasReadIsGone();
+        faultTellsTheLatestRead();
+        noLexeme();
+        doesNotFit();
+        wordsAreNoNames();
+        tooMany();
+        thereAlready();
+        notTold();
+        otherSort();
+        twice();
+        outOfRange();
+        lowestNumberOfOneLexeme();
+        firstPlaceWins();
+        Expect.finish();
+    }
+
+    private static void fine(String text, int statements) {
+        CoreText x = new CoreText();
+        Expect.feed(x, text);
+        Expect.same("read of " + text, x.read(), statements);
+        Expect.same("statements of " + text, x.count(6), statements);
+        Expect.same("no fault of " + text, x.fault(0), 0);
+        Expect.same("no place of " + text, x.fault(1), 0);
+    }
+
+    private static void faulty(int number, int place, String text) {
+        CoreText x = new CoreText();
+        Expect.feed(x, text);
+        Expect.thrown("read of " + text, IllegalArgumentException.class, x::read);
+        Expect.same("fault of " + text, x.fault(0), number);
+        Expect.same("place of " + text, x.fault(1), place);
+        Expect.same("nothing is read of " + text, Expect.counts(x), "0 0 0 0 0 0 0 0 0");
+    }
+
+    /** A fault in the piece behind a start that is fine. */
+    private static void faultBehind(String start, int number, int place, String piece) {
+        faulty(number, start.length() + place, start + piece);
+    }
+
+    private static void readsStatements() {
+        fine("", 0);
+        fine("class a;", 1);
+        fine("class a, b, c;class d;", 2);
+        fine("stage s;", 1);
+        fine("stage s does fetch;", 1);
+        fine("stage s does commit,write,memory,execute,read,decode,fetch;", 1);
+        fine("class a; latency a = 1; ", 2);
+        fine("class a; stage s; result a > s;", 3);
+        fine("stage s; stage t; path s > t; path t > s; path s > s;", 5);
+        fine("class a, b, c; stall a; stall c, b;", 3);
+        fine("queue q = 1; stage s; queue r = 999 in s;", 3);
+        fine("class a, b; port p : b; port q : b, a;", 3);
+        fine(Largest.text(), 1 + 12 + 1 + 24 + 24 + 8 + 8);
+    }
+
+    private static void readsLexemes() {
+        fine("# only a comment", 0);
+        fine("#", 0);
+        fine("\t\n\r ", 0);
+        fine("class\ta\r\n,b#,\n,c ; # class a;\n#\n#class a;", 1);
+        fine("class a;#$%&\u00ff\u0000\rclass a;\nclass b;", 2);
+        fine("class a1b2c3d4e5f6,a;", 1);
+        fine("class a;latency a=99;", 2);
+        fine("class a;latency a=0000000000000000000000000000000000000000000001;", 2);
+        fine("stage s;queue q=999in s;", 2);
+        fine("class classes, i, inn, portx, fetch1, re;", 1);
+        fine("class z9, zz, zzzzzzzzzzzz, z99999999999;", 1);
+    }
+
+    private static void whatWasReadIsGone() {
+        CoreText x = Expect.read("class a, b; stage s; queue q = 1; port p : a; path s > s;");
+        Expect.same("counts", Expect.counts(x), "0 2 1 1 1 1 5 3 0");
+        Expect.feed(x, "class a;");
+        Expect.same("read", x.read(), 1);
+        Expect.same("counts", Expect.counts(x), "0 1 0 0 0 0 1 0 0");
+        Expect.same("no port has it", x.ofClass(0, 3), 0);
+        Expect.feed(x, "class b; latency b = 0;");
+        Expect.thrown("read", IllegalArgumentException.class, x::read);
+        Expect.same("counts behind a fault", Expect.counts(x), "0 0 0 0 0 0 0 0 0");
+        Expect.same("errors behind a fault", Expect.errors(x), "1:0 1:2 1:3 1:6");
+        Expect.same("print behind a fault", x.print(), 0);
+        Expect.feed(x, "class b; latency b = 2;");
+        Expect.same("read behind a fault", x.read(), 2);
+        Expect.same("latency", x.ofClass(0, 0), 2);
+        Expect.same("read of nothing", x.read(), 0);
+        Expect.same("counts", Expect.counts(x), "0 0 0 0 0 0 0 0 0");
+    }
+
+    private static void faultTellsTheLatestRead() {
+        CoreText x = new CoreText();
+        Expect.feed(x, " in");
+        Expect.thrown("read", IllegalArgumentException.class, x::read);
+        Expect.same("fault", x.fault(0), 2);
+        Expect.same("place", x.fault(1), 1);
+        Expect.feed(x, "class a;");
+        x.print();
+        Expect.same("fault stays until a read", x.fault(0), 2);
+        x.read();
+        Expect.same("fault", x.fault(0), 0);
+        Expect.same("place", x.fault(1), 0);
+        Expect.outside("fault(2)", () -> x.fault(2));
+        Expect.outside("fault(-1)", () -> x.fault(-1));
+        Expect.outside("fault(max)", () -> x.fault(Integer.MAX_VALUE));
+        Expect.outside("fault(min)", () -> x.fault(Integer.MIN_VALUE));
+    }
+
+    private static void noLexeme() {
+        for (int c = 0; c < 256; c++) {
+            boolean white = c == 9 || c == 10 || c == 13 || c == 32 || c == '#';
+            boolean letter = c >= 'a' && c <= 'z';
+            boolean digit = c >= '0' && c <= '9';
+            boolean sign = ":;,>=".indexOf(c) >= 0;
+            if (white) {
+                fine("class a; " + (char) c, 1);
+            } else {
+                faulty(letter || digit || sign ? 2 : 1, 9, "class a; " + (char) c);
+            }
+        }
+        faulty(1, 7, "class a$;");
+        faulty(1, 7, "class aA;");
+        faulty(1, 6, "class abcdefghijklm;");
+        faulty(1, 0, "abcdefghijklm");
+        faulty(1, 9, "class a; latencylatency a = 1;");
+        faulty(1, 6, "class a234567890123456789012345678901234567890;");
+        faulty(2, 0, "abcdefghijkl");
+    }
+
+    private static void doesNotFit() {
+        faulty(2, 0, ";");
+        faulty(2, 0, "foo;");
+        faulty(2, 0, "7");
+        faulty(2, 0, "does");
+        faulty(2, 0, "in");
+        faulty(2, 0, "fetch");
+        faulty(2, 8, "class a;;");
+        faulty(2, 6, "class ;");
+        faulty(2, 6, "class ,a;");
+        faulty(2, 8, "class a,;");
+        faulty(2, 8, "class a b;");
+        faulty(2, 6, "class 1a;");
+        faulty(2, 8, "stage a fetch;");
+        faulty(2, 7, "stage a, b;");
+        faulty(2, 12, "stage a does;");
+        faulty(2, 13, "stage a does run;");
+        faulty(2, 13, "stage a does class;");
+        faulty(2, 19, "stage a does fetch decode;");
+        faulty(2, 19, "stage a does fetch,;");
+        String start = "class a; stage s; ";
+        faultBehind(start, 2, 8, "latency 5 = 5;");
+        faultBehind(start, 2, 10, "latency a > 5;");
+        faultBehind(start, 2, 12, "latency a = a;");
+        faultBehind(start, 2, 13, "latency a = 5, a;");
+        faultBehind(start, 2, 9, "result a = s;");
+        faultBehind(start, 2, 11, "result a > ;");
+        faultBehind(start, 2, 12, "result a > s, s;");
+        faultBehind(start, 2, 7, "path s , s;");
+        faultBehind(start, 2, 5, "path > s;");
+        faultBehind(start, 2, 10, "path s > s> s;");
+        faultBehind(start, 2, 7, "stall a: a;");
+        faultBehind(start, 2, 6, "stall ;");
+        faultBehind(start, 2, 8, "queue q : 5;");
+        faultBehind(start, 2, 10, "queue q = in s;");
+        faultBehind(start, 2, 12, "queue q = 5 s;");
+        faultBehind(start, 2, 15, "queue q = 5 in ;");
+        faultBehind(start, 2, 16, "queue q = 5 in s, s;");
+        faultBehind(start, 2, 7, "port p a;");
+        faultBehind(start, 2, 9, "port p : ;");
+        faultBehind(start, 2, 10, "port p: a : a;");
+        atTheEnd();
+    }
+
+    private static void atTheEnd() {
+        String all = "class a,b; stage s does read,write; latency a=5; result a>s; path s>s; "
+                + "stall a,b; queue q=5 in s; port p:a,b;";
+        for (int i = 0; i < all.length(); i++) {
+            String start = all.substring(0, i);
+            String last = start.trim();
+            boolean cutName = i > 0 && Character.isLetterOrDigit(all.charAt(i))
+                    && Character.isLetterOrDigit(all.charAt(i - 1));
+            if (!cutName && !last.isEmpty() && !last.endsWith(";")) {
+                faulty(2, i, start);
+                faulty(2, i + 3, start + " # ");
+                faulty(2, i + 2, start + "\n\t");
+            }
+        }
+    }
+
+    private static void wordsAreNoNames() {
+        String[] words = ("class stage does latency result path stall queue in port "
+                + "fetch decode read execute memory write commit").split(" ");
+        for (String word : words) {
+            faulty(2, 6, "class " + word + ";");
+            faulty(2, 6, "stage " + word + ";");
+            faulty(2, 6, "queue " + word + " = 1;");
+            faulty(2, 5, "port " + word + " : a;");
+            faulty(2, 8, "latency " + word + " = 1;");
+            faulty(2, 5, "path " + word + " > a;");
+            faulty(2, 6, "stall " + word + ";");
+        }
+    }
+
+    private static void tooMany() {
+        faultBehind(Largest.classes(12), 3, 6, "class a;");
+        faulty(3, 30, "class a,b,c,d,e,f,g,h,i,j,k,l,m;");
+        faultBehind(Largest.stages(12), 3, 6, "stage a;");
+        faultBehind(Largest.stages(12) + Largest.queues(8), 3, 6, "queue a = 1;");
+        faultBehind(Largest.classes(12) + Largest.ports(8), 3, 5, "port a : a;");
+        faultBehind(Largest.stages(12) + Largest.paths(24), 3, 20,
+                "path " + Expect.name(Largest.STAGE, 0) + " > " + Expect.name(Largest.STAGE, 2));
+        fine(Largest.classes(12) + "stage a;", 2);
+        fine(Largest.stages(12) + "class a;", 13);
+    }
+
+    private static void thereAlready() {
+        String start = "class a; stage s; queue q = 1; port p : a; ";
+        for (String name : new String[] {"a", "s", "q", "p"}) {
+            faultBehind(start, 4, 6, "class " + name + ";");
+            faultBehind(start, 4, 6, "stage " + name + ";");
+            faultBehind(start, 4, 6, "queue " + name + " = 1;");
+            faultBehind(start, 4, 5, "port " + name + " : a;");
+        }
+        faulty(4, 9, "class a, a;");
+        faulty(4, 12, "class a, b, b;");
+    }
+
+    private static void notTold() {
+        String start = "class a; stage s; ";
+        faultBehind(start, 5, 8, "latency x = 1;");
+        faultBehind(start, 5, 7, "result x > s;");
+        faultBehind(start, 5, 11, "result a > x;");
+        faultBehind(start, 5, 5, "path x > s;");
+        faultBehind(start, 5, 9, "path s > x;");
+        faultBehind(start, 5, 6, "stall x;");
+        faultBehind(start, 5, 9, "stall a, x;");
+        faultBehind(start, 5, 15, "queue q = 1 in x;");
+        faultBehind(start, 5, 9, "port p : x;");
+        faultBehind(start, 5, 12, "port p : a, x;");
+        faulty(5, 8, "latency a = 1; class a;");
+    }
+
+    private static void otherSort() {
+        String start = "class a; stage s; queue q = 1; port p : a; ";
+        for (String name : new String[] {"s", "q", "p"}) {
+            faultBehind(start, 6, 8, "latency " + name + " = 1;");
+            faultBehind(start, 6, 7, "result " + name + " > s;");
+            faultBehind(start, 6, 6, "stall " + name + ";");
+            faultBehind(start, 6, 9, "port x : " + name + ";");
+        }
+        for (String name : new String[] {"a", "q", "p"}) {
+            faultBehind(start, 6, 11, "result a > " + name + ";");
+            faultBehind(start, 6, 5, "path " + name + " > s;");
+            faultBehind(start, 6, 9, "path s > " + name + ";");
+            faultBehind(start, 6, 15, "queue x = 1 in " + name + ";");
+        }
+        faulty(6, 15, "queue q = 1 in q;");
+        faulty(6, 9, "port p : p;");
+    }
+
+    private static void twice() {
+        String start = "class a, b; stage s; stage t; ";
+        faultBehind(start, 7, 23, "latency a = 1; latency a = 1;");
+        faultBehind(start, 7, 21, "result a > s; result a > t;");
+        faultBehind(start, 7, 15, "stall a; stall a;");
+        faultBehind(start, 7, 12, "stall a, b, b;");
+        faultBehind(start, 7, 15, "port p : a, b, a;");
+        faultBehind(start, 7, 21, "path s > t; path s > t;");
+        faulty(7, 20, "stage a does fetch, fetch;");
+        faulty(7, 33, "stage a does fetch; stage b does fetch;");
+        fine(start + "port p : a; port q : a; path s > t; path t > s;", 7);
+        fine(start + "latency a = 1; latency b = 1; result a > s; result b > s;", 7);
+    }
+
+    private static void outOfRange() {
+        String start = "class a; ";
+        faultBehind(start, 8, 12, "latency a = 0;");
+        faultBehind(start, 8, 12, "latency a = 000;");
+        faultBehind(start, 8, 12, "latency a = 100;");
+        faultBehind(start, 8, 12, "latency a = 4294967297;");
+        faultBehind(start, 8, 12, "latency a = 18446744073709551617;");
+        faultBehind(start, 8, 12, "latency a = 1" + "0".repeat(4000) + ";");
+        faulty(8, 10, "queue q = 0;");
+        faulty(8, 10, "queue q = 1000;");
+        faulty(8, 10, "queue q = 10000;");
+        faulty(8, 10, "queue q = 4294967297;");
+        fine(start + "latency a = " + "0".repeat(4000) + "99;", 2);
+        fine("queue q = 999; queue r = 1; queue s = 0999;", 3);
+    }
+
+    private static void lowestNumberOfOneLexeme() {
+        String classes = Largest.classes(12);
+        faultBehind(classes, 3, 6, "class " + Expect.name(Largest.CLASS, 3) + ";");
+        faultBehind(classes, 2, 6, "class class;");
+        faultBehind(classes, 1, 6, "class abcdefghijklm;");
+        String paths = Largest.stages(12) + "class a;" + Largest.paths(24);
+        String from = "path " + Expect.name(Largest.STAGE, 0) + " > ";
+        faultBehind(paths, 3, 20, from + "x;");
+        faultBehind(paths, 3, 20, from + "a;");
+        faultBehind(paths, 3, 20, from + Expect.name(Largest.STAGE, 0) + ";");
+        faultBehind(paths, 2, 20, from + "5;");
+        faultBehind(paths, 2, 20, from + "path;");
+        faultBehind(paths, 2, 20, from);
+        faultBehind(paths, 1, 20, from + "$");
+        faultBehind(paths, 5, 5, "path x > x;");
+        faultBehind(paths, 6, 5, "path a > x;");
+    }
+
+    private static void firstPlaceWins() {
+        faulty(5, 6, "stall x $");
+        faulty(2, 8, "class a > $");
+        faulty(4, 9, "class a, a, abcdefghijklm;");
+        faulty(8, 10, "queue q = 0 in x;");
+        faulty(7, 32, "class a; latency a = 5; latency a = 0;");
+        faulty(1, 8, "class a $ in");
+    }
+}
