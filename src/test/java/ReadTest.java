@@ -4,6 +4,7 @@ final class ReadTest {
         readsStatements();
         readsLexemes();
         whatWasReadIsGone();
+        nothingStaysOfEachSort();
         faultTellsTheLatestRead();
         noLexeme();
         doesNotFit();
@@ -89,6 +90,21 @@ final class ReadTest {
         Expect.same("latency", x.ofClass(0, 0), 2);
         Expect.same("read of nothing", x.read(), 0);
         Expect.same("counts", Expect.counts(x), "0 0 0 0 0 0 0 0 0");
+    }
+
+    private static void nothingStaysOfEachSort() {
+        CoreText x = Expect.read("class a; stage s does read; latency a = 5; result a > s; stall a;"
+                + "path s > s; queue q = 5 in s; port p : a;");
+        String second = "class a, b; stage s; stage t; path t > s; queue q = 6; port p : b;";
+        Expect.feed(x, second);
+        x.read();
+        CoreText fresh = Expect.read(second);
+        Expect.same("printed", Expect.printed(x), Expect.printed(fresh));
+        Expect.same("errors", Expect.errors(x), Expect.errors(fresh));
+        Expect.same("remarks", Expect.remarks(x), Expect.remarks(fresh));
+        Expect.same("queue", x.queue(0, 1), CoreText.NONE);
+        Expect.same("result", x.ofClass(0, 1), CoreText.NONE);
+        Expect.same("task", x.task(2), CoreText.NONE);
     }
 
     private static void faultTellsTheLatestRead() {

@@ -56,7 +56,9 @@ final class TextTest {
         Expect.same("a feed that throws changes nothing", x.count(0), 4096);
         Expect.same("end(15)", x.end(15), 4095);
         Expect.thrown("feed at 4095", IllegalStateException.class, () -> x.feed(0, 0, 0, 0));
-        Expect.same("end(1)", x.end(1), 4080);
+        Expect.same("end(2)", x.end(2), 4081);
+        Expect.thrown("feed at 4081", IllegalStateException.class, () -> x.feed(0, 0, 0, 0));
+        Expect.same("end(15)", x.end(15), 4080);
         Expect.same("feed at 4080", x.feed(BLANKS, BLANKS, BLANKS, BLANKS), 4096);
         Expect.same("read of 4096 blanks", x.read(), 0);
         Expect.same("fault of 4096 blanks", x.fault(0), 0);
