@@ -70,7 +70,8 @@ final class CheckTest {
     }
 
     private static void wrongIndices() {
-        CoreText x = Expect.read("stage f does fetch, read, execute; queue q = 5 in f; queue r = 5;");
+        CoreText x = Expect.read("stage f does fetch, read, execute;"
+                + "queue q = 5 in f; queue r = 5;");
         Expect.same("errors()", x.errors(), 1);
         Expect.same("count(7)", x.count(7), 1);
         Expect.same("error(0, 0)", x.error(0, 0), 1);

@@ -75,10 +75,92 @@ final class Expect {
         return x;
     }
 
-    static String printed(CoreText x) {
-        int size = x.print();
+    /** A text without a fault. */
+    static void fine(String text, int statements) {
+        CoreText x = new CoreText();
+        feed(x, text);
+        same("read of " + text, x.read(), statements);
+        same("statements of " + text, x.count(6), statements);
+        same("no fault of " + text, x.fault(0), 0);
+        same("no place of " + text, x.fault(1), 0);
+    }
+
+    static void faulty(int number, int place, String text) {
+        CoreText x = new CoreText();
+        feed(x, text);
+        thrown("read of " + text, IllegalArgumentException.class, x::read);
+        same("fault of " + text, x.fault(0), number);
+        same("place of " + text, x.fault(1), place);
+        same("nothing is read of " + text, counts(x), "0 0 0 0 0 0 0 0 0");
+    }
+
+    /** A fault in the piece behind a start that is fine. */
+    static void faultBehind(String start, int number, int place, String piece) {
+        faulty(number, start.length() + place, start + piece);
+    }
+
+    /** A call that throws, and changes nothing of what can be seen. */
+    static void refused(String what, CoreText x, Class<? extends RuntimeException> want,
+            Call call) {
+        String before = state(x);
+        thrown(what, want, call);
+        same("what is there behind " + what, state(x), before);
+    }
+
+    /** A text that has no room for sixteen more, and stays as it is. */
+    static void refusedFeed(CoreText x, int size) {
+        thrown("feed at " + size, IllegalStateException.class, () -> x.feed(0, 0, 0, 0));
+        same("the text behind a feed that was refused", x.count(0), size);
+    }
+
+    /** All that can be seen of an object, the printed bytes too. */
+    static String state(CoreText x) {
+        StringBuilder all = new StringBuilder(counts(x));
+        all.append("; fault ").append(x.fault(0)).append(" at ").append(x.fault(1));
+        all.append("; errors ").append(errors(x)).append("; remarks ").append(remarks(x));
+        all.append("; core ").append(core(x)).append("; ").append(lastPrinted(x));
+        return all.toString();
+    }
+
+    /** What was read, as numbers. */
+    static String core(CoreText x) {
         StringBuilder all = new StringBuilder();
-        for (int i = 0; i < size; i++) {
+        int classes = x.count(1);
+        int ports = x.count(5);
+        for (int what = 1; what <= 6; what++) {
+            all.append(x.count(what)).append(' ');
+        }
+        for (int k = 0; k < classes; k++) {
+            all.append("c ");
+            for (int what = 0; what < 4; what++) {
+                all.append(x.ofClass(k, what)).append(' ');
+            }
+        }
+        for (int t = 0; t < 7; t++) {
+            all.append("t ").append(x.task(t)).append(' ');
+        }
+        for (int k = 0, paths = x.count(3); k < paths; k++) {
+            all.append("p ").append(x.path(k, 0)).append(' ').append(x.path(k, 1)).append(' ');
+        }
+        for (int k = 0, queues = x.count(4); k < queues; k++) {
+            all.append("q ").append(x.queue(k, 0)).append(' ').append(x.queue(k, 1)).append(' ');
+        }
+        for (int k = 0; k < ports; k++) {
+            for (int c = 0; c < classes; c++) {
+                all.append(x.port(k, c) ? '+' : '-');
+            }
+        }
+        return all.toString();
+    }
+
+    static String printed(CoreText x) {
+        x.print();
+        return lastPrinted(x);
+    }
+
+    static String lastPrinted(CoreText x) {
+        StringBuilder all = new StringBuilder();
+        for (int i = 0, size = x.count(8); i < size; i++) {
             all.append((char) x.out(i));
         }
         return all.toString();

@@ -11,10 +11,16 @@ import java.util.TreeSet;
 /** The face is the document's and no more, and the source keeps to the rules a reader can test. */
 final class FaceTest {
     private static final String SOURCE = "src/main/java/CoreText.java";
-    private static final Set<String> FACE = Set.of("int feed(int,int,int,int)", "int end(int)",
-            "int read()", "int fault(int)", "int ofClass(int,int)", "int task(int)",
-            "int path(int,int)", "int queue(int,int)", "boolean port(int,int)", "int errors()",
-            "int error(int,int)", "int remark(int,int)", "int print()", "int out(int)",
+    private static final String OUTSIDE = " throws IndexOutOfBoundsException";
+    // The public face: each method with its exceptions, in the order in which they are told.
+    private static final Set<String> FACE = Set.of(
+            "int feed(int,int,int,int) throws IllegalStateException",
+            "int end(int) throws IllegalArgumentException,IllegalStateException",
+            "int read() throws IllegalArgumentException", "int fault(int)" + OUTSIDE,
+            "int ofClass(int,int)" + OUTSIDE, "int task(int)" + OUTSIDE,
+            "int path(int,int)" + OUTSIDE, "int queue(int,int)" + OUTSIDE,
+            "boolean port(int,int)" + OUTSIDE, "int errors()", "int error(int,int)" + OUTSIDE,
+            "int remark(int,int)" + OUTSIDE, "int print()", "int out(int)" + OUTSIDE,
             "int again()", "int count(int)");
 
     public static void main(String[] args) throws IOException {
@@ -29,9 +35,9 @@ final class FaceTest {
         Set<String> seen = new TreeSet<>();
         for (Method m : CoreText.class.getDeclaredMethods()) {
             if (!Modifier.isPrivate(m.getModifiers())) {
-                String full = m.toGenericString();
-                String kinds = full.substring(full.indexOf('('), full.indexOf(')') + 1);
-                seen.add(m.getReturnType() + " " + m.getName() + kinds);
+                String full = m.toGenericString().replace("java.lang.", "");
+                String rest = full.substring(full.indexOf('('));
+                seen.add(m.getReturnType() + " " + m.getName() + rest);
                 Expect.same(m + " is public", m.getModifiers(), Modifier.PUBLIC);
             }
         }

@@ -60,7 +60,7 @@ final class ModelTest {
         larger += model.statements > 20 ? 1 : 0;
         Expect.same("fault of " + text, x.fault(0), number);
         Expect.same("place of " + text, x.fault(1), place);
-        Expect.same("core of " + text, coreOf(x), coreOf(model));
+        Expect.same("core of " + text, Expect.core(x), coreOf(model));
         Expect.same("errors of " + text, Expect.errors(x), model.errors());
         Expect.same("remarks of " + text, Expect.remarks(x), model.remarks());
         String printed = Expect.printed(x);
@@ -68,32 +68,6 @@ final class ModelTest {
         Expect.same("again of " + text, x.again(), printed.length());
         x.read();
         Expect.same("printed again of " + text, Expect.printed(x), printed);
-    }
-
-    private static String coreOf(CoreText x) {
-        StringBuilder all = new StringBuilder();
-        for (int what = 1; what <= 6; what++) {
-            all.append(x.count(what)).append(' ');
-        }
-        for (int k = 0; k < x.count(1); k++) {
-            all.append("c ").append(x.ofClass(k, 0)).append(' ').append(x.ofClass(k, 1)).append(' ');
-            all.append(x.ofClass(k, 2)).append(' ').append(x.ofClass(k, 3)).append(' ');
-        }
-        for (int t = 0; t < 7; t++) {
-            all.append("t ").append(x.task(t)).append(' ');
-        }
-        for (int k = 0; k < x.count(3); k++) {
-            all.append("p ").append(x.path(k, 0)).append(' ').append(x.path(k, 1)).append(' ');
-        }
-        for (int k = 0; k < x.count(4); k++) {
-            all.append("q ").append(x.queue(k, 0)).append(' ').append(x.queue(k, 1)).append(' ');
-        }
-        for (int k = 0; k < x.count(5); k++) {
-            for (int c = 0; c < x.count(1); c++) {
-                all.append(x.port(k, c) ? '+' : '-');
-            }
-        }
-        return all.toString();
     }
 
     private static String coreOf(Model x) {

@@ -25,7 +25,8 @@ final class PrintTest {
 
     private static void printsEachLine() {
         prints("class a;\nlatency a = 1;\n", "class a;");
-        prints("class a, b;\nlatency a = 1;\nlatency b = 7;\n", "class a; class b; latency b = 07;");
+        prints("class a, b;\nlatency a = 1;\nlatency b = 7;\n",
+                "class a; class b; latency b = 07;");
         prints("stage s;\n", "stage s;");
         prints("stage s does fetch;\n", "stage s does fetch;");
         prints("stage s does fetch, decode, read, execute, memory, write, commit;\n",

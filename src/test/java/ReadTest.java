@@ -20,57 +20,34 @@ final class ReadTest {
         Expect.finish();
     }
 
-    private static void fine(String text, int statements) {
-        CoreText x = new CoreText();
-        Expect.feed(x, text);
-        Expect.same("read of " + text, x.read(), statements);
-        Expect.same("statements of " + text, x.count(6), statements);
-        Expect.same("no fault of " + text, x.fault(0), 0);
-        Expect.same("no place of " + text, x.fault(1), 0);
-    }
-
-    private static void faulty(int number, int place, String text) {
-        CoreText x = new CoreText();
-        Expect.feed(x, text);
-        Expect.thrown("read of " + text, IllegalArgumentException.class, x::read);
-        Expect.same("fault of " + text, x.fault(0), number);
-        Expect.same("place of " + text, x.fault(1), place);
-        Expect.same("nothing is read of " + text, Expect.counts(x), "0 0 0 0 0 0 0 0 0");
-    }
-
-    /** A fault in the piece behind a start that is fine. */
-    private static void faultBehind(String start, int number, int place, String piece) {
-        faulty(number, start.length() + place, start + piece);
-    }
-
     private static void readsStatements() {
-        fine("", 0);
-        fine("class a;", 1);
-        fine("class a, b, c;class d;", 2);
-        fine("stage s;", 1);
-        fine("stage s does fetch;", 1);
-        fine("stage s does commit,write,memory,execute,read,decode,fetch;", 1);
-        fine("class a; latency a = 1; ", 2);
-        fine("class a; stage s; result a > s;", 3);
-        fine("stage s; stage t; path s > t; path t > s; path s > s;", 5);
-        fine("class a, b, c; stall a; stall c, b;", 3);
-        fine("queue q = 1; stage s; queue r = 999 in s;", 3);
-        fine("class a, b; port p : b; port q : b, a;", 3);
-        fine(Largest.text(), 1 + 12 + 1 + 24 + 24 + 8 + 8);
+        Expect.fine("", 0);
+        Expect.fine("class a;", 1);
+        Expect.fine("class a, b, c;class d;", 2);
+        Expect.fine("stage s;", 1);
+        Expect.fine("stage s does fetch;", 1);
+        Expect.fine("stage s does commit,write,memory,execute,read,decode,fetch;", 1);
+        Expect.fine("class a; latency a = 1; ", 2);
+        Expect.fine("class a; stage s; result a > s;", 3);
+        Expect.fine("stage s; stage t; path s > t; path t > s; path s > s;", 5);
+        Expect.fine("class a, b, c; stall a; stall c, b;", 3);
+        Expect.fine("queue q = 1; stage s; queue r = 999 in s;", 3);
+        Expect.fine("class a, b; port p : b; port q : b, a;", 3);
+        Expect.fine(Largest.text(), 1 + 12 + 1 + 24 + 24 + 8 + 8);
     }
 
     private static void readsLexemes() {
-        fine("# only a comment", 0);
-        fine("#", 0);
-        fine("\t\n\r ", 0);
-        fine("class\ta\r\n,b#,\n,c ; # class a;\n#\n#class a;", 1);
-        fine("class a;#$%&\u00ff\u0000\rclass a;\nclass b;", 2);
-        fine("class a1b2c3d4e5f6,a;", 1);
-        fine("class a;latency a=99;", 2);
-        fine("class a;latency a=0000000000000000000000000000000000000000000001;", 2);
-        fine("stage s;queue q=999in s;", 2);
-        fine("class classes, i, inn, portx, fetch1, re;", 1);
-        fine("class z9, zz, zzzzzzzzzzzz, z99999999999;", 1);
+        Expect.fine("# only a comment", 0);
+        Expect.fine("#", 0);
+        Expect.fine("\t\n\r ", 0);
+        Expect.fine("class\ta\r\n,b#,\n,c ; # class a;\n#\n#class a;", 1);
+        Expect.fine("class a;#$%&\u00ff\u0000\rclass a;\nclass b;", 2);
+        Expect.fine("class a1b2c3d4e5f6,a;", 1);
+        Expect.fine("class a;latency a=99;", 2);
+        Expect.fine("class a;latency a=0000000000000000000000000000000000000000000001;", 2);
+        Expect.fine("stage s;queue q=999in s;", 2);
+        Expect.fine("class classes, i, inn, portx, fetch1, re;", 1);
+        Expect.fine("class z9, zz, zzzzzzzzzzzz, z99999999999;", 1);
     }
 
     private static void whatWasReadIsGone() {
@@ -132,61 +109,61 @@ final class ReadTest {
             boolean digit = c >= '0' && c <= '9';
             boolean sign = ":;,>=".indexOf(c) >= 0;
             if (white) {
-                fine("class a; " + (char) c, 1);
+                Expect.fine("class a; " + (char) c, 1);
             } else {
-                faulty(letter || digit || sign ? 2 : 1, 9, "class a; " + (char) c);
+                Expect.faulty(letter || digit || sign ? 2 : 1, 9, "class a; " + (char) c);
             }
         }
-        faulty(1, 7, "class a$;");
-        faulty(1, 7, "class aA;");
-        faulty(1, 6, "class abcdefghijklm;");
-        faulty(1, 0, "abcdefghijklm");
-        faulty(1, 9, "class a; latencylatency a = 1;");
-        faulty(1, 6, "class a234567890123456789012345678901234567890;");
-        faulty(2, 0, "abcdefghijkl");
+        Expect.faulty(1, 7, "class a$;");
+        Expect.faulty(1, 7, "class aA;");
+        Expect.faulty(1, 6, "class abcdefghijklm;");
+        Expect.faulty(1, 0, "abcdefghijklm");
+        Expect.faulty(1, 9, "class a; latencylatency a = 1;");
+        Expect.faulty(1, 6, "class a234567890123456789012345678901234567890;");
+        Expect.faulty(2, 0, "abcdefghijkl");
     }
 
     private static void doesNotFit() {
-        faulty(2, 0, ";");
-        faulty(2, 0, "foo;");
-        faulty(2, 0, "7");
-        faulty(2, 0, "does");
-        faulty(2, 0, "in");
-        faulty(2, 0, "fetch");
-        faulty(2, 8, "class a;;");
-        faulty(2, 6, "class ;");
-        faulty(2, 6, "class ,a;");
-        faulty(2, 8, "class a,;");
-        faulty(2, 8, "class a b;");
-        faulty(2, 6, "class 1a;");
-        faulty(2, 8, "stage a fetch;");
-        faulty(2, 7, "stage a, b;");
-        faulty(2, 12, "stage a does;");
-        faulty(2, 13, "stage a does run;");
-        faulty(2, 13, "stage a does class;");
-        faulty(2, 19, "stage a does fetch decode;");
-        faulty(2, 19, "stage a does fetch,;");
+        Expect.faulty(2, 0, ";");
+        Expect.faulty(2, 0, "foo;");
+        Expect.faulty(2, 0, "7");
+        Expect.faulty(2, 0, "does");
+        Expect.faulty(2, 0, "in");
+        Expect.faulty(2, 0, "fetch");
+        Expect.faulty(2, 8, "class a;;");
+        Expect.faulty(2, 6, "class ;");
+        Expect.faulty(2, 6, "class ,a;");
+        Expect.faulty(2, 8, "class a,;");
+        Expect.faulty(2, 8, "class a b;");
+        Expect.faulty(2, 6, "class 1a;");
+        Expect.faulty(2, 8, "stage a fetch;");
+        Expect.faulty(2, 7, "stage a, b;");
+        Expect.faulty(2, 12, "stage a does;");
+        Expect.faulty(2, 13, "stage a does run;");
+        Expect.faulty(2, 13, "stage a does class;");
+        Expect.faulty(2, 19, "stage a does fetch decode;");
+        Expect.faulty(2, 19, "stage a does fetch,;");
         String start = "class a; stage s; ";
-        faultBehind(start, 2, 8, "latency 5 = 5;");
-        faultBehind(start, 2, 10, "latency a > 5;");
-        faultBehind(start, 2, 12, "latency a = a;");
-        faultBehind(start, 2, 13, "latency a = 5, a;");
-        faultBehind(start, 2, 9, "result a = s;");
-        faultBehind(start, 2, 11, "result a > ;");
-        faultBehind(start, 2, 12, "result a > s, s;");
-        faultBehind(start, 2, 7, "path s , s;");
-        faultBehind(start, 2, 5, "path > s;");
-        faultBehind(start, 2, 10, "path s > s> s;");
-        faultBehind(start, 2, 7, "stall a: a;");
-        faultBehind(start, 2, 6, "stall ;");
-        faultBehind(start, 2, 8, "queue q : 5;");
-        faultBehind(start, 2, 10, "queue q = in s;");
-        faultBehind(start, 2, 12, "queue q = 5 s;");
-        faultBehind(start, 2, 15, "queue q = 5 in ;");
-        faultBehind(start, 2, 16, "queue q = 5 in s, s;");
-        faultBehind(start, 2, 7, "port p a;");
-        faultBehind(start, 2, 9, "port p : ;");
-        faultBehind(start, 2, 10, "port p: a : a;");
+        Expect.faultBehind(start, 2, 8, "latency 5 = 5;");
+        Expect.faultBehind(start, 2, 10, "latency a > 5;");
+        Expect.faultBehind(start, 2, 12, "latency a = a;");
+        Expect.faultBehind(start, 2, 13, "latency a = 5, a;");
+        Expect.faultBehind(start, 2, 9, "result a = s;");
+        Expect.faultBehind(start, 2, 11, "result a > ;");
+        Expect.faultBehind(start, 2, 12, "result a > s, s;");
+        Expect.faultBehind(start, 2, 7, "path s , s;");
+        Expect.faultBehind(start, 2, 5, "path > s;");
+        Expect.faultBehind(start, 2, 10, "path s > s> s;");
+        Expect.faultBehind(start, 2, 7, "stall a: a;");
+        Expect.faultBehind(start, 2, 6, "stall ;");
+        Expect.faultBehind(start, 2, 8, "queue q : 5;");
+        Expect.faultBehind(start, 2, 10, "queue q = in s;");
+        Expect.faultBehind(start, 2, 12, "queue q = 5 s;");
+        Expect.faultBehind(start, 2, 15, "queue q = 5 in ;");
+        Expect.faultBehind(start, 2, 16, "queue q = 5 in s, s;");
+        Expect.faultBehind(start, 2, 7, "port p a;");
+        Expect.faultBehind(start, 2, 9, "port p : ;");
+        Expect.faultBehind(start, 2, 10, "port p: a : a;");
         atTheEnd();
     }
 
@@ -199,9 +176,9 @@ final class ReadTest {
             boolean cutName = i > 0 && Character.isLetterOrDigit(all.charAt(i))
                     && Character.isLetterOrDigit(all.charAt(i - 1));
             if (!cutName && !last.isEmpty() && !last.endsWith(";")) {
-                faulty(2, i, start);
-                faulty(2, i + 3, start + " # ");
-                faulty(2, i + 2, start + "\n\t");
+                Expect.faulty(2, i, start);
+                Expect.faulty(2, i + 3, start + " # ");
+                Expect.faulty(2, i + 2, start + "\n\t");
             }
         }
     }
@@ -210,127 +187,127 @@ final class ReadTest {
         String[] words = ("class stage does latency result path stall queue in port "
                 + "fetch decode read execute memory write commit").split(" ");
         for (String word : words) {
-            faulty(2, 6, "class " + word + ";");
-            faulty(2, 6, "stage " + word + ";");
-            faulty(2, 6, "queue " + word + " = 1;");
-            faulty(2, 5, "port " + word + " : a;");
-            faulty(2, 8, "latency " + word + " = 1;");
-            faulty(2, 5, "path " + word + " > a;");
-            faulty(2, 6, "stall " + word + ";");
+            Expect.faulty(2, 6, "class " + word + ";");
+            Expect.faulty(2, 6, "stage " + word + ";");
+            Expect.faulty(2, 6, "queue " + word + " = 1;");
+            Expect.faulty(2, 5, "port " + word + " : a;");
+            Expect.faulty(2, 8, "latency " + word + " = 1;");
+            Expect.faulty(2, 5, "path " + word + " > a;");
+            Expect.faulty(2, 6, "stall " + word + ";");
         }
     }
 
     private static void tooMany() {
-        faultBehind(Largest.classes(12), 3, 6, "class a;");
-        faulty(3, 30, "class a,b,c,d,e,f,g,h,i,j,k,l,m;");
-        faultBehind(Largest.stages(12), 3, 6, "stage a;");
-        faultBehind(Largest.stages(12) + Largest.queues(8), 3, 6, "queue a = 1;");
-        faultBehind(Largest.classes(12) + Largest.ports(8), 3, 5, "port a : a;");
-        faultBehind(Largest.stages(12) + Largest.paths(24), 3, 20,
+        Expect.faultBehind(Largest.classes(12), 3, 6, "class a;");
+        Expect.faulty(3, 30, "class a,b,c,d,e,f,g,h,i,j,k,l,m;");
+        Expect.faultBehind(Largest.stages(12), 3, 6, "stage a;");
+        Expect.faultBehind(Largest.stages(12) + Largest.queues(8), 3, 6, "queue a = 1;");
+        Expect.faultBehind(Largest.classes(12) + Largest.ports(8), 3, 5, "port a : a;");
+        Expect.faultBehind(Largest.stages(12) + Largest.paths(24), 3, 20,
                 "path " + Expect.name(Largest.STAGE, 0) + " > " + Expect.name(Largest.STAGE, 2));
-        fine(Largest.classes(12) + "stage a;", 2);
-        fine(Largest.stages(12) + "class a;", 13);
+        Expect.fine(Largest.classes(12) + "stage a;", 2);
+        Expect.fine(Largest.stages(12) + "class a;", 13);
     }
 
     private static void thereAlready() {
         String start = "class a; stage s; queue q = 1; port p : a; ";
         for (String name : new String[] {"a", "s", "q", "p"}) {
-            faultBehind(start, 4, 6, "class " + name + ";");
-            faultBehind(start, 4, 6, "stage " + name + ";");
-            faultBehind(start, 4, 6, "queue " + name + " = 1;");
-            faultBehind(start, 4, 5, "port " + name + " : a;");
+            Expect.faultBehind(start, 4, 6, "class " + name + ";");
+            Expect.faultBehind(start, 4, 6, "stage " + name + ";");
+            Expect.faultBehind(start, 4, 6, "queue " + name + " = 1;");
+            Expect.faultBehind(start, 4, 5, "port " + name + " : a;");
         }
-        faulty(4, 9, "class a, a;");
-        faulty(4, 12, "class a, b, b;");
+        Expect.faulty(4, 9, "class a, a;");
+        Expect.faulty(4, 12, "class a, b, b;");
     }
 
     private static void notTold() {
         String start = "class a; stage s; ";
-        faultBehind(start, 5, 8, "latency x = 1;");
-        faultBehind(start, 5, 7, "result x > s;");
-        faultBehind(start, 5, 11, "result a > x;");
-        faultBehind(start, 5, 5, "path x > s;");
-        faultBehind(start, 5, 9, "path s > x;");
-        faultBehind(start, 5, 6, "stall x;");
-        faultBehind(start, 5, 9, "stall a, x;");
-        faultBehind(start, 5, 15, "queue q = 1 in x;");
-        faultBehind(start, 5, 9, "port p : x;");
-        faultBehind(start, 5, 12, "port p : a, x;");
-        faulty(5, 8, "latency a = 1; class a;");
+        Expect.faultBehind(start, 5, 8, "latency x = 1;");
+        Expect.faultBehind(start, 5, 7, "result x > s;");
+        Expect.faultBehind(start, 5, 11, "result a > x;");
+        Expect.faultBehind(start, 5, 5, "path x > s;");
+        Expect.faultBehind(start, 5, 9, "path s > x;");
+        Expect.faultBehind(start, 5, 6, "stall x;");
+        Expect.faultBehind(start, 5, 9, "stall a, x;");
+        Expect.faultBehind(start, 5, 15, "queue q = 1 in x;");
+        Expect.faultBehind(start, 5, 9, "port p : x;");
+        Expect.faultBehind(start, 5, 12, "port p : a, x;");
+        Expect.faulty(5, 8, "latency a = 1; class a;");
     }
 
     private static void otherSort() {
         String start = "class a; stage s; queue q = 1; port p : a; ";
         for (String name : new String[] {"s", "q", "p"}) {
-            faultBehind(start, 6, 8, "latency " + name + " = 1;");
-            faultBehind(start, 6, 7, "result " + name + " > s;");
-            faultBehind(start, 6, 6, "stall " + name + ";");
-            faultBehind(start, 6, 9, "port x : " + name + ";");
+            Expect.faultBehind(start, 6, 8, "latency " + name + " = 1;");
+            Expect.faultBehind(start, 6, 7, "result " + name + " > s;");
+            Expect.faultBehind(start, 6, 6, "stall " + name + ";");
+            Expect.faultBehind(start, 6, 9, "port x : " + name + ";");
         }
         for (String name : new String[] {"a", "q", "p"}) {
-            faultBehind(start, 6, 11, "result a > " + name + ";");
-            faultBehind(start, 6, 5, "path " + name + " > s;");
-            faultBehind(start, 6, 9, "path s > " + name + ";");
-            faultBehind(start, 6, 15, "queue x = 1 in " + name + ";");
+            Expect.faultBehind(start, 6, 11, "result a > " + name + ";");
+            Expect.faultBehind(start, 6, 5, "path " + name + " > s;");
+            Expect.faultBehind(start, 6, 9, "path s > " + name + ";");
+            Expect.faultBehind(start, 6, 15, "queue x = 1 in " + name + ";");
         }
-        faulty(6, 15, "queue q = 1 in q;");
-        faulty(6, 9, "port p : p;");
+        Expect.faulty(6, 15, "queue q = 1 in q;");
+        Expect.faulty(6, 9, "port p : p;");
     }
 
     private static void twice() {
         String start = "class a, b; stage s; stage t; ";
-        faultBehind(start, 7, 23, "latency a = 1; latency a = 1;");
-        faultBehind(start, 7, 21, "result a > s; result a > t;");
-        faultBehind(start, 7, 15, "stall a; stall a;");
-        faultBehind(start, 7, 12, "stall a, b, b;");
-        faultBehind(start, 7, 15, "port p : a, b, a;");
-        faultBehind(start, 7, 21, "path s > t; path s > t;");
-        faulty(7, 20, "stage a does fetch, fetch;");
-        faulty(7, 33, "stage a does fetch; stage b does fetch;");
-        fine(start + "port p : a; port q : a; path s > t; path t > s;", 7);
-        fine(start + "latency a = 1; latency b = 1; result a > s; result b > s;", 7);
+        Expect.faultBehind(start, 7, 23, "latency a = 1; latency a = 1;");
+        Expect.faultBehind(start, 7, 21, "result a > s; result a > t;");
+        Expect.faultBehind(start, 7, 15, "stall a; stall a;");
+        Expect.faultBehind(start, 7, 12, "stall a, b, b;");
+        Expect.faultBehind(start, 7, 15, "port p : a, b, a;");
+        Expect.faultBehind(start, 7, 21, "path s > t; path s > t;");
+        Expect.faulty(7, 20, "stage a does fetch, fetch;");
+        Expect.faulty(7, 33, "stage a does fetch; stage b does fetch;");
+        Expect.fine(start + "port p : a; port q : a; path s > t; path t > s;", 7);
+        Expect.fine(start + "latency a = 1; latency b = 1; result a > s; result b > s;", 7);
     }
 
     private static void outOfRange() {
         String start = "class a; ";
-        faultBehind(start, 8, 12, "latency a = 0;");
-        faultBehind(start, 8, 12, "latency a = 000;");
-        faultBehind(start, 8, 12, "latency a = 100;");
-        faultBehind(start, 8, 12, "latency a = 4294967297;");
-        faultBehind(start, 8, 12, "latency a = 18446744073709551617;");
-        faultBehind(start, 8, 12, "latency a = 1" + "0".repeat(4000) + ";");
-        faulty(8, 10, "queue q = 0;");
-        faulty(8, 10, "queue q = 1000;");
-        faulty(8, 10, "queue q = 10000;");
-        faulty(8, 10, "queue q = 4294967297;");
-        fine(start + "latency a = " + "0".repeat(4000) + "99;", 2);
-        fine("queue q = 999; queue r = 1; queue s = 0999;", 3);
+        Expect.faultBehind(start, 8, 12, "latency a = 0;");
+        Expect.faultBehind(start, 8, 12, "latency a = 000;");
+        Expect.faultBehind(start, 8, 12, "latency a = 100;");
+        Expect.faultBehind(start, 8, 12, "latency a = 4294967297;");
+        Expect.faultBehind(start, 8, 12, "latency a = 18446744073709551617;");
+        Expect.faultBehind(start, 8, 12, "latency a = 1" + "0".repeat(4000) + ";");
+        Expect.faulty(8, 10, "queue q = 0;");
+        Expect.faulty(8, 10, "queue q = 1000;");
+        Expect.faulty(8, 10, "queue q = 10000;");
+        Expect.faulty(8, 10, "queue q = 4294967297;");
+        Expect.fine(start + "latency a = " + "0".repeat(4000) + "99;", 2);
+        Expect.fine("queue q = 999; queue r = 1; queue s = 0999;", 3);
     }
 
     private static void lowestNumberOfOneLexeme() {
         String classes = Largest.classes(12);
-        faultBehind(classes, 3, 6, "class " + Expect.name(Largest.CLASS, 3) + ";");
-        faultBehind(classes, 2, 6, "class class;");
-        faultBehind(classes, 1, 6, "class abcdefghijklm;");
+        Expect.faultBehind(classes, 3, 6, "class " + Expect.name(Largest.CLASS, 3) + ";");
+        Expect.faultBehind(classes, 2, 6, "class class;");
+        Expect.faultBehind(classes, 1, 6, "class abcdefghijklm;");
         String paths = Largest.stages(12) + "class a;" + Largest.paths(24);
         String from = "path " + Expect.name(Largest.STAGE, 0) + " > ";
-        faultBehind(paths, 3, 20, from + "x;");
-        faultBehind(paths, 3, 20, from + "a;");
-        faultBehind(paths, 3, 20, from + Expect.name(Largest.STAGE, 0) + ";");
-        faultBehind(paths, 2, 20, from + "5;");
-        faultBehind(paths, 2, 20, from + "path;");
-        faultBehind(paths, 2, 20, from);
-        faultBehind(paths, 1, 20, from + "$");
-        faultBehind(paths, 5, 5, "path x > x;");
-        faultBehind(paths, 6, 5, "path a > x;");
+        Expect.faultBehind(paths, 3, 20, from + "x;");
+        Expect.faultBehind(paths, 3, 20, from + "a;");
+        Expect.faultBehind(paths, 3, 20, from + Expect.name(Largest.STAGE, 0) + ";");
+        Expect.faultBehind(paths, 2, 20, from + "5;");
+        Expect.faultBehind(paths, 2, 20, from + "path;");
+        Expect.faultBehind(paths, 2, 20, from);
+        Expect.faultBehind(paths, 1, 20, from + "$");
+        Expect.faultBehind(paths, 5, 5, "path x > x;");
+        Expect.faultBehind(paths, 6, 5, "path a > x;");
     }
 
     private static void firstPlaceWins() {
-        faulty(5, 6, "stall x $");
-        faulty(2, 8, "class a > $");
-        faulty(4, 9, "class a, a, abcdefghijklm;");
-        faulty(8, 10, "queue q = 0 in x;");
-        faulty(7, 32, "class a; latency a = 5; latency a = 0;");
-        faulty(1, 8, "class a $ in");
+        Expect.faulty(5, 6, "stall x $");
+        Expect.faulty(2, 8, "class a > $");
+        Expect.faulty(4, 9, "class a, a, abcdefghijklm;");
+        Expect.faulty(8, 10, "queue q = 0 in x;");
+        Expect.faulty(7, 32, "class a; latency a = 5; latency a = 0;");
+        Expect.faulty(1, 8, "class a $ in");
     }
 }
