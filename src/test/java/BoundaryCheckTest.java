@@ -30,7 +30,9 @@ final class BoundaryCheckTest {
         remarksAreInOrder();
         remarksOfTheFullest();
         errorsWithNothingRead();
+        errorsFirstAndLast();
         errorThatIsNotThere();
+        remarksFirstAndLast();
         remarkThatIsNotThere();
         Expect.finish();
     }
@@ -261,6 +263,16 @@ final class BoundaryCheckTest {
         Expect.same("of an empty text", Expect.errors(x), "1:0 1:2 1:3 1:6");
     }
 
+    // Promise 12: "Of the k-th error its number (what 0), what tells it (1)."
+    private static void errorsFirstAndLast() {
+        CoreText x = Expect.read("stage s does fetch; class a, b; port p : a; result a > s;");
+        Expect.same("errors()", x.errors(), 5);
+        Expect.same("number of the first", x.error(0, 0), 1);
+        Expect.same("teller of the first", x.error(0, 1), 2);
+        Expect.same("number of the last", x.error(4, 0), 3);
+        Expect.same("teller of the last", x.error(4, 1), 1);
+    }
+
     // Promise 12: "IndexOutOfBoundsException, when there is none, or no such what."
     private static void errorThatIsNotThere() {
         for (String task : WANTED) {
@@ -282,6 +294,17 @@ final class BoundaryCheckTest {
         CoreText fresh = new CoreText();
         Expect.same("error(3, 1) of a new object", fresh.error(3, 1), 6);
         Expect.outside("error(4, 0) of a new object", () -> fresh.error(4, 0));
+    }
+
+    // Promise 13: "Of the k-th remark its number (what 0), what tells it (1)."
+    private static void remarksFirstAndLast() {
+        CoreText x = Expect.read("stage s does fetch; stage t; class a; result a > s;"
+                + "queue p = 1 in s; queue q = 1; path s > s; path s > t;");
+        Expect.same("count(7)", x.count(7), 3);
+        Expect.same("number of the first", x.remark(0, 0), 1);
+        Expect.same("teller of the first", x.remark(0, 1), 1);
+        Expect.same("number of the last", x.remark(2, 0), 4);
+        Expect.same("teller of the last", x.remark(2, 1), 1);
     }
 
     // Promise 13: "IndexOutOfBoundsException, when there is none, or no such what."

@@ -31,6 +31,7 @@ final class BoundaryGrammarTest {
         textOfNoStatement();
         listsOfOneAndOfMany();
         optionsThereAndNot();
+        shortestAndLongestStatements();
         fullOfEachSort();
         fullOfAllSorts();
         mostStatements();
@@ -89,6 +90,24 @@ final class BoundaryGrammarTest {
         Expect.fine("stage s; queue q = 5;", 2);
         Expect.fine("stage s; queue q = 5 in s;", 2);
         Expect.faulty(2, 23, "stage s; queue q = 5 in;");
+    }
+
+    // Terms: "statement: class NAME {{ , NAME }} ; | stage NAME [ does TASK {{ , TASK }} ] ; |
+    // latency CLASS = NUMBER ; | result CLASS > STAGE ; | path STAGE > STAGE ; | stall CLASS
+    // {{ , CLASS }} ; | queue NAME = NUMBER [ in STAGE ] ; | port NAME : CLASS {{ , CLASS }} ;.
+    // (CLASS, STAGE: NAMES.)"
+    private static void shortestAndLongestStatements() {
+        String[] statements = {"class x;", "class x,y,z;", "stage x;", "stage x does read;",
+            "stage x does read,write,commit;", "latency a=1;", "result a>s;", "path s>t;",
+            "path s>s;", "stall a;", "stall b,a;", "queue x=1;", "queue x=999 in t;", "port x:a;",
+            "port x:b,a;"};
+        for (String statement : statements) {
+            Expect.fine(START + statement, 6);
+            Expect.fine(START + statement.replaceAll("([:;,>=])", "\n$1\t"), 6);
+            int end = START.length() + statement.length();
+            Expect.faulty(2, end - 1, START + statement.substring(0, statement.length() - 1));
+            Expect.faulty(2, end, START + statement + ";");
+        }
     }
 
     // Terms: "Up to 12 classes, 12 stages, 8 queues, 8 ports, 24 paths."

@@ -12,7 +12,6 @@ final class CheckTest {
         wrongIndices();
         remarksOfEachSort();
         remarksInOrder();
-        asManyAsThereMayBe();
         Expect.finish();
     }
 
@@ -109,36 +108,5 @@ final class CheckTest {
     private static void remarksInOrder() {
         remarksAre("1:0 1:1 2:0 2:2 3:5 3:6 4:1 4:2", STAGES + "stage y; stage z; class a;"
                 + "result a > m; path x > r; path m > w; path f > r; queue q = 1; queue p = 2;");
-    }
-
-    private static void asManyAsThereMayBe() {
-        StringBuilder all = new StringBuilder();
-        for (int i = 0; i < 12; i++) {
-            all.append("stage ").append(Expect.name("s", i)).append(';');
-        }
-        for (int i = 0; i < 24; i++) {
-            all.append("path ").append(Expect.name("s", i % 3)).append('>');
-            all.append(Expect.name("s", 3 + i / 3)).append(';');
-        }
-        for (int i = 0; i < 8; i++) {
-            all.append("queue ").append(Expect.name("q", i)).append("=1;");
-        }
-        remarksAre(list(1, 8) + " " + list(2, 24) + " " + list(3, 12) + " " + list(4, 24),
-                all.toString());
-        StringBuilder early = new StringBuilder("stage s; stage x does read, execute; class ");
-        early.append(Expect.names("c", 12)).append(';');
-        for (int i = 0; i < 12; i++) {
-            early.append("result ").append(Expect.name("c", i)).append(" > s;");
-        }
-        errorsAre("1:0 1:6 " + list(3, 12) + " " + list(4, 12) + " " + list(5, 12),
-                early.toString());
-    }
-
-    private static String list(int number, int howMany) {
-        StringBuilder all = new StringBuilder();
-        for (int i = 0; i < howMany; i++) {
-            all.append(i == 0 ? "" : " ").append(number).append(':').append(i);
-        }
-        return all.toString();
     }
 }

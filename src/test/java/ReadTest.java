@@ -8,7 +8,6 @@ final class ReadTest {
         faultTellsTheLatestRead();
         noLexeme();
         doesNotFit();
-        wordsAreNoNames();
         tooMany();
         thereAlready();
         notTold();
@@ -103,17 +102,6 @@ final class ReadTest {
     }
 
     private static void noLexeme() {
-        for (int c = 0; c < 256; c++) {
-            boolean white = c == 9 || c == 10 || c == 13 || c == 32 || c == '#';
-            boolean letter = c >= 'a' && c <= 'z';
-            boolean digit = c >= '0' && c <= '9';
-            boolean sign = ":;,>=".indexOf(c) >= 0;
-            if (white) {
-                Expect.fine("class a; " + (char) c, 1);
-            } else {
-                Expect.faulty(letter || digit || sign ? 2 : 1, 9, "class a; " + (char) c);
-            }
-        }
         Expect.faulty(1, 7, "class a$;");
         Expect.faulty(1, 7, "class aA;");
         Expect.faulty(1, 6, "class abcdefghijklm;");
@@ -180,20 +168,6 @@ final class ReadTest {
                 Expect.faulty(2, i + 3, start + " # ");
                 Expect.faulty(2, i + 2, start + "\n\t");
             }
-        }
-    }
-
-    private static void wordsAreNoNames() {
-        String[] words = ("class stage does latency result path stall queue in port "
-                + "fetch decode read execute memory write commit").split(" ");
-        for (String word : words) {
-            Expect.faulty(2, 6, "class " + word + ";");
-            Expect.faulty(2, 6, "stage " + word + ";");
-            Expect.faulty(2, 6, "queue " + word + " = 1;");
-            Expect.faulty(2, 5, "port " + word + " : a;");
-            Expect.faulty(2, 8, "latency " + word + " = 1;");
-            Expect.faulty(2, 5, "path " + word + " > a;");
-            Expect.faulty(2, 6, "stall " + word + ";");
         }
     }
 
