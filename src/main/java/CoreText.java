@@ -268,6 +268,8 @@ public final class CoreText {
     private static final class Names {
         static final int LONGEST = 12;
         static final int BASE = 37;
+        // What the first of twelve characters counts: the eleventh power of the base.
+        static final long HIGHEST = 177917621779460413L;
         private static final int LETTERS = 26;
 
         private final long[] keys;
@@ -1304,14 +1306,14 @@ public final class CoreText {
         }
 
         private void addName(Names names, int i) {
-            long key = names.keyAt(i);
-            long unit = 1;
-            for (int n = 1; n < Names.LONGEST && key / unit >= Names.BASE; n++) {
-                unit *= Names.BASE;
-            }
-            for (int n = 0; n < Names.LONGEST && unit > 0; n++) {
-                bytes.add(Names.characterOf((int) (key / unit % Names.BASE)));
-                unit /= Names.BASE;
+            long rest = names.keyAt(i);
+            for (int n = 0; n < Names.LONGEST; n++) {
+                int code = (int) (rest / Names.HIGHEST);
+                // A shorter name has zeros in front, and none behind its first character.
+                if (code > 0) {
+                    bytes.add(Names.characterOf(code));
+                }
+                rest = rest % Names.HIGHEST * Names.BASE;
             }
         }
 

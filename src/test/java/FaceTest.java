@@ -7,6 +7,8 @@ import java.nio.file.Files;
 import java.nio.file.Path;
 import java.util.Set;
 import java.util.TreeSet;
+import java.util.regex.Matcher;
+import java.util.regex.Pattern;
 
 /** The face is the document's and no more, and the source keeps to the rules a reader can test. */
 final class FaceTest {
@@ -28,6 +30,8 @@ final class FaceTest {
         members();
         nested();
         source();
+        sizes();
+        divisors();
         Expect.finish();
     }
 
@@ -84,5 +88,63 @@ final class FaceTest {
         for (String piece : never) {
             Expect.same("'" + piece + "' in the source", all.contains(piece) ? 1 : 0, 0);
         }
+    }
+
+    // LANGUAGE.md, rule 11: parameters, lines of a method, classes, fields.
+    private static void sizes() throws IOException {
+        Class<?>[] classes = CoreText.class.getDeclaredClasses();
+        atMost("classes", classes.length + 1, 12);
+        sizesOf(CoreText.class);
+        for (Class<?> c : classes) {
+            sizesOf(c);
+        }
+        atMost("lines of the longest method", longestMethod(), 60);
+    }
+
+    private static int longestMethod() throws IOException {
+        int longest = 0;
+        int lines = 0;
+        String end = "";
+        for (String line : Files.readAllLines(Path.of(SOURCE))) {
+            lines++;
+            if (line.matches("( {4}| {8})(?!if |for |switch |while )[A-Za-z].*\\(.*\\{")) {
+                lines = 1;
+                end = line.substring(0, line.length() - line.stripLeading().length()) + "}";
+            } else if (line.equals(end)) {
+                longest = Math.max(longest, lines);
+            }
+        }
+        Expect.same("methods are seen", longest > 0 ? 1 : 0, 1);
+        return longest;
+    }
+
+    private static void sizesOf(Class<?> c) {
+        int fields = 0;
+        for (Field f : c.getDeclaredFields()) {
+            fields += Modifier.isStatic(f.getModifiers()) ? 0 : 1;
+        }
+        atMost("fields of " + c, fields, 20);
+        for (Method m : c.getDeclaredMethods()) {
+            atMost("parameters of " + m, m.getParameterCount(), 7);
+        }
+    }
+
+    private static void atMost(String what, int got, int most) {
+        Expect.same(what + " (" + got + ", at most " + most + ")", got <= most ? 1 : 0, 1);
+    }
+
+    // LANGUAGE.md, rule 7: "a divisor before it divides": each is a constant, and not 0.
+    private static void divisors() throws IOException {
+        Pattern division = Pattern.compile("[^/*][/%]=? *([^/* ;)]+)");
+        int seen = 0;
+        for (String line : Files.readAllLines(Path.of(SOURCE))) {
+            Matcher found = division.matcher(line.replaceAll("//.*", ""));
+            while (found.find()) {
+                boolean fine = found.group(1).matches("[1-9][0-9]*|([A-Z][a-z]+\\.)?[A-Z_]+");
+                Expect.same("constant divisor: " + line.trim(), fine ? 1 : 0, 1);
+                seen++;
+            }
+        }
+        Expect.same("divisions are seen", seen > 0 ? 1 : 0, 1);
     }
 }
