@@ -5,6 +5,7 @@ final class PrintTest {
         printsEachLine();
         printsInOrder();
         printsNamesAndNumbers();
+        printsEveryCharacterOfAName();
         outRefuses();
         printedStaysUntilPrint();
         printedReadsTheSame();
@@ -65,6 +66,26 @@ final class PrintTest {
             String line = "class a;\nlatency a = " + n + ";\n";
             Expect.same("number", Expect.printed(Expect.read(line)), line);
         }
+    }
+
+    /** Each character at each place of names of each length, behind the lowest and the highest. */
+    private static void printsEveryCharacterOfAName() {
+        for (int size = 1; size <= 12; size++) {
+            for (int place = 0; place < size; place++) {
+                String fit = place == 0 ? "abcdefghijklmnopqrstuvwxyz"
+                        : "abcdefghijklmnopqrstuvwxyz0123456789";
+                for (char c : fit.toCharArray()) {
+                    printsName("a".repeat(place) + c + "a".repeat(size - place - 1));
+                    printsName(("z" + "9".repeat(12)).substring(0, place) + c
+                            + "9".repeat(size - place - 1));
+                }
+            }
+        }
+    }
+
+    private static void printsName(String name) {
+        String line = "stage " + name + ";\n";
+        Expect.same("name", Expect.printed(Expect.read(line)), line);
     }
 
     private static void outRefuses() {
